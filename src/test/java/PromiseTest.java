@@ -576,6 +576,14 @@ public final class PromiseTest {
         due("undone", x.count(0), 3);
         due("undone", x.count(10), 7);
         due("undo leaves the snapshot", x.restore(), 2);
+        RollScales y = withCarts("5+7*6");
+        y.keep();
+        y.undo();
+        y.cart(8);
+        y.axle(0, 9, 3);
+        y.restore();
+        due("weight", y.axleOf(0, 1, 0), 6);
+        due("distance", y.axleOf(0, 1, 1), 7);
     }
 
     private static void cartOf() {
@@ -788,6 +796,7 @@ public final class PromiseTest {
         RollScales x = scales("5+12*6;10", 20, 0, 60, 1, 0);
         due("whole on the plate", x.runOf(0, 4, 1), 0);
         due("weight", x.runOf(0, 4, 0), 11);
+        due("five axles", scales("1+2*2+2*3+2*4+2*5", 20, 0, 60, 1, 0).runOf(0, 4, 0), 15);
         x.set(0, 12);
         due("never whole", x.runOf(0, 4, 1), 3);
         due("no weight", x.runOf(0, 4, 0), NONE);
@@ -845,6 +854,16 @@ public final class PromiseTest {
         due("with the reason 3 alone", slow.runOf(0, 1, 7), NONE);
         due("reason 3", slow.runOf(0, 2, 1), 3);
         due("four axles", slow.runOf(0, 2, 7), 20);
+        // Levels 10 and 3: after the first one none rises.
+        RollScales falling = scales("10+8*3", 10, 0, 60, 2, 0);
+        due("levels", falling.runOf(0, 2, 3), 2);
+        due("reason", falling.runOf(0, 2, 1), 3);
+        due("one rise, two axles", falling.runOf(0, 2, 7), NONE);
+        // Levels 0, 10, 0, 7 and 0: a first level of 0 is no rise.
+        RollScales nothing = scales("4+20*6+20*7", 10, 0, 60, 1, 0);
+        nothing.lift(0, 0, true);
+        due("levels", nothing.runOf(0, 2, 3), 5);
+        due("two rises, two axles", nothing.runOf(0, 2, 7), 17);
     }
 
     private static void runOfErrors() {
@@ -885,6 +904,8 @@ public final class PromiseTest {
         due("six more than the greatest", x.count(Integer.MIN_VALUE + 5), BAD_VALUE);
         x.undo();
         due("runs undone", x.count(1), 2);
+        x.cart(5);
+        due("one of three has a tare", x.count(3), 1);
     }
 
     private static void off() {
@@ -905,6 +926,8 @@ public final class PromiseTest {
         dueFloat("twice as much", x.off(1, 9), 1.0f);
         x.set(1, 33);
         dueFloat("more by a third", x.off(1, 9), (float) 32 / (float) 99);
+        x.cart(1);
+        dueFloat("the lightest", x.off(2, 9), 0.0f);
     }
 
     private static void fastest() {
@@ -916,6 +939,9 @@ public final class PromiseTest {
         }
         // Tick 0 swings, so ten ticks must be on the plate: at 4 there are ten, at 5 eight.
         due("60", x.fastest(0), 4);
+        x.set(0, 10);
+        due("60, ten ticks at 1 alone", x.fastest(0), 1);
+        x.set(0, 40);
         x.set(3, 1);
         due("the swing is told", x.fastest(0), NONE);
         x.set(1, 0);
@@ -952,6 +978,9 @@ public final class PromiseTest {
         RollScales slow = scales("5+40*5", 90, 0, 60, 1, 0);
         due("too long", slow.leastWindow(0, 1), NONE);
         due("not too long", slow.leastWindow(0, 2), 1);
+        // The second axle comes at the tick 8: a level told earlier is that of the first one alone.
+        RollScales late = scales("50+40*1", 90, 0, 60, 1, 1);
+        due("9", late.leastWindow(0, 5), 9);
     }
 
     private static void shortestPlate() {
@@ -984,6 +1013,9 @@ public final class PromiseTest {
         due("at 2 it comes at the tick 45, at 90", last.shortestPlate(0, 2), NONE);
         RollScales all = scales("5+40*5+40*5+8*5", 40, 0, 0, 1, 0);
         due("at 8 it comes at the tick 11, at 88", all.shortestPlate(0, 8), 89);
+        RollScales longest = scales("5+10*5+40*5+40*5+9*5", 40, 0, 0, 1, 0);
+        longest.lift(0, 0, true);
+        due("at 9 the last one comes at the tick 11, the second one at 89", longest.shortestPlate(0, 9), 90);
         RollScales most = scales("5+40*5+40*5+9*5", 40, 0, 0, 1, 0);
         most.lift(0, 3, true);
         due("the one that is lifted need not be on it", most.shortestPlate(0, 8), 81);
