@@ -409,7 +409,7 @@ public final class RollScales {
     }
 
     private static int quotientUp(int number, int divisor) {
-        return quotient(number + divisor - 1, divisor);
+        return divisor <= 0 ? 0 : (number + divisor - 1) / divisor;
     }
 
     private int settingOf(int which) {

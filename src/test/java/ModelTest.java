@@ -612,7 +612,10 @@ public final class ModelTest {
         switch (random(12)) {
             case 0 -> due("cart(" + b + ")", x.cart(b), m.cart(b));
             case 1 -> due("axle()", x.axle(cart, 2 + b / 5, b), m.axle(cart, 2 + b / 5, b));
-            case 2 -> due("load()", x.load(cart, a, b), m.load(cart, a, b));
+            case 2 -> {
+                due("load()", x.load(cart, a, b), m.load(cart, a, b));
+                due("load() again", x.load(cart, a, b), m.load(cart, a, b));
+            }
             case 3, 4 -> due("lift()", x.lift(cart, a, b > 80), m.lift(cart, a, b > 80));
             case 5, 6 -> due("run()", x.run(cart, speed), m.run(cart, speed));
             case 7 -> due("tare()", x.tare(cart), m.tare(cart));
@@ -668,13 +671,15 @@ public final class ModelTest {
         }
     }
 
+    /** No object is asked more than 512 calls, of which the last 240 are askAll's and a text takes up to 98. */
     private static void oneObject() {
+        int before = calls;
         RollScales x = new RollScales();
         Model m = new Model();
         if (random(3) > 0) {
             typeSome(x, m);
         }
-        for (int call = 0; call < 150; call++) {
+        while (calls - before < 170) {
             int cart = argument(0, Math.max(0, m.all.carts().size() - 1));
             int speed = argument(1, 9);
             int kind = random(20);
@@ -691,6 +696,7 @@ public final class ModelTest {
 
     /** Every tick and number of runs with settings that settle easily, since most random ones tell nothing. */
     private static void oneRun() {
+        int before = calls;
         RollScales x = new RollScales();
         Model m = new Model();
         typeSome(x, m);
@@ -706,7 +712,7 @@ public final class ModelTest {
         for (int what = 0; what < 9; what++) {
             due("runOf(" + what + ")", x.runOf(0, speed, what), m.runOf(0, speed, what));
         }
-        for (int tick = 0; tick < 122; tick += between(1, 6)) {
+        for (int tick = 0; tick < 122 && calls - before < 500; tick += between(1, 6)) {
             for (int what = 0; what < 5; what++) {
                 due("tick(" + what + ")", x.tick(0, speed, tick, what), m.tick(0, speed, tick, what));
             }
@@ -719,7 +725,7 @@ public final class ModelTest {
     }
 
     public static void main(String[] args) {
-        for (int object = 0; object < 400; object++) {
+        for (int object = 0; object < 500; object++) {
             oneObject();
             oneRun();
         }
