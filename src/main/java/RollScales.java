@@ -536,7 +536,9 @@ public final class RollScales {
         void copyFrom(Cart other) {
             System.arraycopy(other.weights, 0, weights, 0, MOST_AXLES);
             System.arraycopy(other.distances, 0, distances, 0, MOST_AXLES);
-            System.arraycopy(other.lifted, 0, lifted, 0, MOST_AXLES);
+            for (int axle = 0; axle < MOST_AXLES; axle++) {
+                lifted[axle] = other.lifted[axle];
+            }
             axleCount = other.axleCount;
             tareWeight = other.tareWeight;
             latestWeight = other.latestWeight;
